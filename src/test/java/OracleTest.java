@@ -229,6 +229,28 @@ public final class OracleTest {
         state();
     }
 
+    /** Many cells of all sayers, most of them small, and what lets them. */
+    private void crowd() {
+        text("sense a line 1/" + any(1, 3) + " noise 2 1;sense b share " + any(5, 40) + " noise 1 1;sayer p of a line 3;sayer q of b guess;"
+            + "sayer r of a second 1;sayer s of b line 9;sayer t of a;sayer u of b");
+        int widest = any(5, 400);
+        for (int i = 0; i < 450; i++) {
+            int p = any(0, 5), kind = any(0, 1), a = any(1, widest), b = any(1, widest);
+            boolean more = y.level(0, kind == 0 ? b : a) > (kind == 0 ? y.level(0, a) : 5);
+            int answer = more ? 1 : 0;
+            due("tell " + p + " " + kind + " " + a + " " + b + " " + answer, x.tell(p, kind, a, b, 0, answer), y.tell(p, kind, a, b, 0, answer));
+        }
+        for (int p = 0; p < 6; p++) {
+            due("fits " + p, x.fits(p), y.fits(p));
+            for (int sense = 0; sense < 2; sense++) {
+                due("lineOf " + p + " " + sense, x.lineOf(p, sense, false), y.lineOf(p, sense, false));
+                due("lineOf most " + p + " " + sense, x.lineOf(p, sense, true), y.lineOf(p, sense, true));
+                due("secondOf " + p + " " + sense, x.secondOf(p, sense, false), y.secondOf(p, sense, false));
+                due("secondOf most " + p + " " + sense, x.secondOf(p, sense, true), y.secondOf(p, sense, true));
+            }
+        }
+    }
+
     private void runTexts(int texts) {
         for (int i = 0; i < texts && !spoilt; i++) {
             told.setLength(0);
@@ -244,6 +266,7 @@ public final class OracleTest {
         for (long i = from; i < from + runs; i++) {
             new OracleTest(i).run(350);
             new OracleTest(-i).runTexts(60);
+            if (i % 5 == 0) new OracleTest(i).crowd();
         }
         System.out.println(calls + " calls by chance, " + wrong + " runs with a wrong answer");
         if (wrong != 0) System.exit(1);

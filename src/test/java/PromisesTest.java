@@ -193,12 +193,15 @@ public final class PromisesTest {
         fault("sense a line 1/100 noise 1", 4, 15);
         fault("sense a floor 400 noise 1", 4, 14);
         fault("sense a floor 0 noise 0", 4, 22);
+        fault("sense a floor 0 noise 10", 4, 22);
         fault("sense a floor 0 noise 1 10", 4, 24);
         fault("sense a floor 0 noise 1 1 1 1 1 1 10", 4, 34);
         fault(good + ";sayer b of a line less 51", 4, 48);
         fault(good + ";sayer b of a second 51", 4, 45);
         fault(good + ";sayer b of a tires 0", 4, 44);
         fault(good + ";sayer b of a learns 100", 4, 45);
+        fault(good + ";sayer b of a learns 0", 4, 45);
+        fault(good + ";sayer b of a tires 100", 4, 44);
         fault("plan x up 0 to 2 by 1 times 1", 4, 10);
         fault("plan x up 401 to 401", 4, 10);
         fault("plan x up 7 to 6", 4, 15);
@@ -211,6 +214,9 @@ public final class PromisesTest {
         fault("plan x up 1 to 21 by 2 times 19", 4, 29);
         fault("pay x hit 100", 4, 10);
         fault("pay x hit less 100", 4, 15);
+        fault("pay x hit 1 miss 100 false 1 right 1 there 1;" + good, 4, 17);
+        fault("pay x hit 1 miss 1 false 100 right 1 there 1;" + good, 4, 25);
+        fault("pay x hit 1 miss 1 false 1 right less 100 there 1;" + good, 4, 38);
         fault("pay x hit 1 miss 1 false 1 right 1 there 101", 4, 41);
         // 5 many
         String senses = "sense a floor 0 noise 1;sense b floor 0 noise 1;sense c floor 0 noise 1;sense d floor 0 noise 1;"
@@ -220,21 +226,28 @@ public final class PromisesTest {
         String sayers = ";sayer g of a;sayer h of a;sayer i of a;sayer j of a;sayer k of a;sayer l of a";
         fault(good + sayers, 0, 0);
         fault(good + sayers + ";sayer", 5, 24 + 6 * 13 + 1);
-        String plans = "plan g up 1 to 1 by 1 times 1;plan h up 1 to 1 by 1 times 1;plan i up 1 to 1 by 1 times 1;plan j up 1 to 1 by 1 times 1;";
+        String plans = "plan m up 1 to 1 by 1 times 1;plan n up 1 to 1 by 1 times 1;plan o up 1 to 1 by 1 times 1;plan p up 1 to 1 by 1 times 1;";
         fault(plans + good, 0, 0);
         fault(plans + "plan", 5, 120);
         String pay = " hit 1 miss 1 false 1 right 1 there 1;";
-        String pays = "pay g" + pay + "pay h" + pay + "pay i" + pay + "pay j" + pay;
+        String pays = "pay q" + pay + "pay r" + pay + "pay s" + pay + "pay t" + pay;
         fault(pays + good, 0, 0);
         fault(pays + "pay g", 5, pays.length());
         fault("sense a floor 0" + times(" then floor 0", 3) + " then share", 5, 8 + 4 * 13);
         fault("sense a floor 0" + times(" then floor 0", 3) + " then noise", 1, 8 + 4 * 13);
         fault("sense a floor 0 noise 1 1 1 1 1 1 9", 5, 34);
         fault(good + ";sayer b of a likes 1,2,3,4,5,6,7", 5, 56);
+        fault(good + sayers + ";" + plans + pays + "sense pp floor 0 noise 1", 0, 0);
+        fault(good + sayers + ";" + plans + "pay p", 3, good.length() + sayers.length() + 1 + plans.length() + 4);
         // 6 lacks
         fault("plan x up 1 to 2 by 1 times 1", 6, 29);
         fault("plan x up 1 to 2 by 1 times 1 ", 6, 30);
         LittleMore x = new LittleMore();
+        Texts.room(x, "                    ");
+        due("4: blanks", x.where(), 20);
+        due("4: nothing", x.room(0), -1);
+        due("4: nothing's fault", x.fault(), 1);
+        due("4: nothing's place", x.where(), 0);
         Texts.room(x, "plan x up 1 to 2 by 1 times 1");
         x.room(-1);
         due("4: room refused by 2 leaves the fault", x.fault(), 6);
@@ -348,7 +361,29 @@ public final class PromisesTest {
         no("9: none below", x, x.rest(-1) ? 1 : 0, 0, 1);
     }
 
+    /** Noise of -5, 0 and 5 alone, each a third: two differ by -10 .. 10, by 1, 2, 3, 2, 1 of 9. */
+    private static final String WIDEST = "sense a floor 0 noise 1 0 0 0 0 1;sayer p of a line 5 second less 10;"
+            + "sayer q of a line 6 second less 11;sayer r of a";
+
     private static void promise10() {
+        LittleMore wide = Texts.roomOf(WIDEST);
+        int[] leads = {-11, -9, -1, 0, 5, 10, 11};
+        int[][] pairs = {{9, 0, 0}, {8, 1, 0}, {6, 3, 0}, {3, 3, 3}, {1, 6, 2}, {0, 8, 1}, {0, 9, 0}};
+        for (int i = 0; i < leads.length; i++) {
+            for (int answer = 0; answer <= 2; answer++) {
+                due("10: lead " + leads[i] + ", " + answer, wide.odds(2, 0, 100, 100 + leads[i], 0, answer, false), pairs[i][answer]);
+            }
+        }
+        // of three like ones one alone off is the odd one; all off or none: the least place.
+        int sum = 0;
+        for (int place = 0; place <= 2; place++) sum += wide.odds(2, 2, 100, 100, 0, place, false);
+        due("10: odd, all together", sum, 27);
+        due("10: odd, the whole", wide.odds(2, 2, 100, 100, 0, 0, true), 27);
+        due("10: odd, the last is off", wide.odds(2, 2, 100, 100, 0, 2, false), 6);
+        due("10: alone, widest", wide.odds(0, 1, 1, 0, 0, 1, false), 1);
+        due("10: alone, no wider", wide.odds(1, 1, 1, 0, 0, 1, false), 0);
+        due("10: number, widest", wide.odds(2, 3, 7, 0, 0, 12, false), 1);
+        due("10: number, widest below", wide.odds(2, 3, 7, 0, 0, 2, false), 1);
         LittleMore x = refused();
         due("10: pair 1", x.odds(2, 0, 4, 9, 0, 1, false), 45);
         due("10: trouble", x.trouble(), 0);
@@ -440,6 +475,12 @@ public final class PromisesTest {
         due("12: number less", x.trial(2, 3, 4, 0, 0), 4);
         due("12: match", x.trial(1, 4, 20, 0, 0), 10);
         due("12: known", x.trial(1, 5, 20, 10, 1), 0);
+        LittleMore wide = Texts.roomOf(WIDEST);
+        wide.seed(874);
+        due("12: the least noise", wide.trial(2, 3, 10, 0, 0), 5);
+        due("12: by 87", wide.size(5), 87);
+        wide.seed(0);
+        due("12: the greatest noise", wide.trial(2, 3, 10, 0, 0), 15);
         no("12: no sayer", x, x.trial(9, 0, 1, 1, 0), -1, 1);
         no("12: no kind", x, x.trial(0, 6, 1, 1, 0), -1, 1);
         no("12: no sense", x, x.trial(0, 4, 1, 9, 0), -1, 1);
@@ -456,7 +497,7 @@ public final class PromisesTest {
     /** Fills the book of a hall to its last row. */
     private static void full(LittleMore x) {
         for (int i = 0; i < 5; i++) x.run(3, 1);
-        while (x.size(4) < 1000) x.tell(1, 3, 1, 0, 0, 1);
+        for (int i = 0; i < 1000 && x.size(4) < 1000; i++) x.tell(1, 3, 1, 0, 0, 1);
     }
 
     private static void promise13() {
@@ -677,6 +718,17 @@ public final class PromisesTest {
         x.tell(1, 0, 20, 10, 0, 0);
         x.tell(1, 3, 1, 0, 0, 900);
         due("19: other kinds are free", x.lets(1, 1, 0, 0), 1);
+        LittleMore y = Texts.roomOf("sense a floor 0 noise 1 1;sayer p of a");
+        // of 40 with a third the span is 8 .. 19: too few of one are too few, though none are too many.
+        due("19: a third, least", y.span(40, 3, 9, false), 8);
+        due("19: a third, most", y.span(40, 3, 9, true), 19);
+        for (int i = 0; i < 40; i++) y.tell(0, 0, 9, 9, 0, i < 17 ? 0 : i < 33 ? 1 : 2);
+        due("19: too few of 2", y.lets(0, 0, 0, 0), 0);
+        y.clear();
+        for (int i = 0; i < 40; i++) y.tell(0, 0, 9, 9, 0, i < 16 ? 0 : i < 32 ? 1 : 2);
+        due("19: just enough of 2", y.lets(0, 0, 0, 0), 1);
+        y.tell(0, 0, 9, 9, 0, 0);
+        no("19: no room by the first cell", y, y.lets(0, 0, 0, 0), -1, 3);
         overfill(x, 0, 1);
         no("19: no room", x, x.lets(0, 0, 0, 0), -1, 3);
         no("19: numbers ahead of room", x, x.lets(0, 0, 51, 0), -1, 2);
@@ -752,6 +804,12 @@ public final class PromisesTest {
         due("23: no cells, most", x.lineOf(1, 1, true), 50);
         x.tell(1, 1, 40, 0, 0, 1);
         due("23: beyond 10", x.lineOf(1, 1, true), 19);
+        x.clear();
+        x.tell(1, 1, 100, 0, 0, 0);
+        due("23: the last alone", x.lineOf(1, 1, false), 50);
+        x.tell(1, 1, 102, 0, 0, 0);
+        no("23: no further than 50", x, x.lineOf(1, 1, false), -1000, 6);
+        x.clear();
         no("23: no sayer", x, x.lineOf(2, 0, true), -1000, 1);
         no("23: no sense", x, x.lineOf(0, 2, true), -1000, 1);
         overfill(x, 0, 0);
@@ -770,7 +828,18 @@ public final class PromisesTest {
         due("24: guess", x.secondOf(1, 1, false), -20);
         x.tell(1, 0, 50, 10, 0, 0);
         due("24: guess, most", x.secondOf(1, 1, true), 19);
+        x.clear();
         x.tell(0, 0, 400, 1, 0, 1);
+        due("24: free of other sayers", x.secondOf(1, 1, true), 50);
+        LittleMore y = Texts.roomOf("sense a floor 0 noise 1;sayer p of a");
+        y.tell(0, 0, 51, 1, 0, 2);
+        due("24: the last alone", y.secondOf(0, 0, false), 50);
+        y.clear();
+        y.tell(0, 0, 1, 51, 0, 2);
+        due("24: the first alone", y.secondOf(0, 0, true), -50);
+        y.clear();
+        y.tell(0, 0, 52, 1, 0, 2);
+        no("24: no further than 50", y, y.secondOf(0, 0, false), -1000, 6);
         no("24: none", x, x.secondOf(0, 0, false), -1000, 6);
         no("24: no sayer", x, x.secondOf(2, 0, true), -1000, 1);
         no("24: no sense", x, x.secondOf(0, 2, true), -1000, 1);
@@ -795,6 +864,13 @@ public final class PromisesTest {
         due("25: second", x.more(4, 1, 1), 101);
         for (int i = 0; i < 20; i++) x.tell(0, 1, 1, 0, 0, 0);
         due("25: fresh", x.more(0, 10, 94), 2);
+        LittleMore wide = Texts.roomOf(WIDEST);
+        due("25: widest, sure", wide.more(2, 1, 100), 11);
+        due("25: widest, 88", wide.more(2, 1, 88), 6);
+        due("25: widest, 89", wide.more(2, 1, 89), 11);
+        due("25: widest, 11 by less 10", wide.more(0, 1, 11), 1);
+        due("25: widest, 12 by less 10", wide.more(0, 1, 12), 6);
+        due("25: widest, 11 by less 11", wide.more(1, 1, 11), 2);
         no("25: no sayer", x, x.more(5, 1, 1), -1, 1);
         no("25: size 0", x, x.more(0, 0, 1), -1, 2);
         no("25: size 401", x, x.more(0, 401, 1), -1, 2);
@@ -853,6 +929,17 @@ public final class PromisesTest {
         due("28: none isn't refused", x.trouble(), 0);
         for (int i = 0; i < 20; i++) x.tell(0, 1, 1, 0, 0, 0);
         due("28: fresh", x.felt(0, 25), 3);
+        LittleMore wide = Texts.roomOf(WIDEST);
+        due("28: widest", wide.felt(0, 33), 1);
+        due("28: widest, a third and more", wide.felt(0, 34), 6);
+        due("28: widest, 66", wide.felt(0, 66), 6);
+        due("28: widest, 67", wide.felt(0, 67), 11);
+        due("28: widest by 6", wide.felt(1, 33), 2);
+        LittleMore fine = Texts.roomOf("sense a floor 0 noise 9 9 9 9 9 1;sayer p of a line 10;sense b floor 399 noise 1;sayer q of b");
+        // 82 of 83 are less than 99 hundredths.
+        due("28: just less", fine.felt(0, 99), 16);
+        due("28: just more", fine.felt(0, 98), 15);
+        due("28: at 400", fine.felt(1, 100), 400);
         no("28: no sayer", x, x.felt(5, 1), -1, 1);
         no("28: percent 0", x, x.felt(0, 0), -1, 2);
         no("28: percent 101", x, x.felt(0, 101), -1, 2);
@@ -883,6 +970,12 @@ public final class PromisesTest {
         due("30: the least of like ones", x.best(0, 0, 4), 1);
         due("30: trouble", x.trouble(), 0);
         due("30: all like", x.best(1, 0, 4), -50);
+        LittleMore far = Texts.roomOf("sense a floor 0 noise 1;sayer p of a;pay y hit 0 miss 10 false 0 right 0 there 100;"
+                + "pay z hit 10 miss 0 false 0 right 0 there 100");
+        due("30: the last", far.best(0, 0, 50), 50);
+        due("30: the last but one", far.best(0, 0, 49), 49);
+        due("30: no further", far.best(0, 0, 51), -50);
+        due("30: the first", far.best(1, 0, 50), -50);
         due("30: the line stays", x.sayer(0, 1), 3);
         no("30: no pay", x, x.best(2, 0, 4), -1000, 1);
         no("30: no sayer", x, x.best(0, 5, 4), -1000, 1);
@@ -932,6 +1025,15 @@ public final class PromisesTest {
         due("32: noise, alone from 2", x.parted(3, 4, 1, 2, 400), -2);
         due("32: noise, number", x.parted(3, 4, 3, 5, 9), 5000);
         due("32: halves, alone", x.parted(0, 5, 1, 0, 400), 1000);
+        due("32: at both ends, pair", x.parted(0, 2, 0, 198, 199), 198199);
+        due("32: one size, pair", x.parted(3, 4, 0, 7, 7), 7007);
+        due("32: one size, number", x.parted(3, 4, 3, 7, 7), 7000);
+        LittleMore y = Texts.roomOf("sense a floor 0 noise 1 1;sense b floor 0 noise 1 0 1;"
+                + "sense c line 10/1 noise 1 0 0 0 0 1;sense d line 11/1 noise 1 0 0 0 0 1;sense e line 12/1 noise 1 0 0 0 0 1");
+        // ones are two thirds by both, noughts a ninth and a third.
+        due("32: by 0 alone", y.parted(0, 1, 0, 1, 2), 1002);
+        due("32: the widest lead", y.parted(2, 3, 0, 1, 2), 1002);
+        due("32: beyond the widest", y.parted(3, 4, 0, 1, 2), -2);
         due("32: itself", x.parted(3, 3, 0, 1, 400), -2);
         no("32: no sense", x, x.parted(6, 0, 0, 1, 2), -1, 1);
         no("32: no other", x, x.parted(0, -1, 0, 1, 2), -1, 1);
@@ -952,6 +1054,9 @@ public final class PromisesTest {
         // of d 10, 10: 1 has 3 of 9: none of n has (2 / 3) to the n, below a fortieth from 10 on.
         due("33: ten", x.fewest(3, 0, 10, 10), 10);
         due("33: turned round", x.fewest(0, 3, 10, 10), 10);
+        LittleMore y = Texts.roomOf("sense a floor 0 noise 4 3;sense b floor 0 noise 1");
+        // by a 11, 10 is 1 by 9 of 100; 0.91 to the 39th is above a fortieth, to the 40th below.
+        due("33: forty", y.fewest(0, 1, 11, 10), 40);
         no("33: no sense", x, x.fewest(6, 0, 1, 1), -1, 1);
         no("33: no other", x, x.fewest(0, 6, 1, 1), -1, 1);
         no("33: a", x, x.fewest(0, 0, 0, 1), -1, 2);
@@ -994,6 +1099,8 @@ public final class PromisesTest {
         due("36: trouble", x.trouble(), 0);
         due("36: down", x.stair(0, 5, 1, 2, 3), 12);
         due("36: never", x.stair(0, 5, 1, 2, 4), 0);
+        due("36: from 400", x.stair(4, 400, 1, 1, 399), 1);
+        due("36: from 1", x.stair(4, 1, 1, 1, 2), 1);
         due("36: within 1", x.stair(0, 5, 400, 1, 1), 4);
         due("36: within 400", x.stair(4, 5, 400, 1, 400), 1);
         for (int i = 0; i < 20; i++) x.tell(0, 1, 1, 0, 0, 0);
@@ -1040,6 +1147,8 @@ public final class PromisesTest {
         due("38: the book stays", x.size(4), 16);
         for (int i = 0; i < 9; i++) due("38: goes on " + i, x.trial(0, 0, 10, 10, 0), later[i]);
         due("38: in all", x.sayer(0, 5), 16);
+        due("38: nothing", x.restore(1, 0), true);
+        due("38: nothing's seed", x.size(5), 0);
         due("38: the greatest", x.restore(1, 65536 + 65537L * (4095 + 4096L * 4095)), true);
         due("38: its seed", x.size(5), 65536);
         due("38: its trials", x.sayer(1, 5), 4095);
