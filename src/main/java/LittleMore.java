@@ -1880,12 +1880,14 @@ public final class LittleMore {
             return true;
         }
 
+        /** With guess a 2 can't be given: told by hand it is a trial of its cell, but isn't asked about. */
         boolean secondLets(int p, Sense sense, int second, boolean guess, Spans spans) {
             Noise noise = sense.fresh();
+            int last = guess ? 1 : 2;
             for (int i = 0; i < used; i++) {
                 if (sayers[i] == p && kinds[i] == PAIR) {
                     int lead = sense.levelAt(seconds[i]) + second - sense.levelAt(firsts[i]);
-                    for (int answer = 0; answer <= 2; answer++) {
+                    for (int answer = 0; answer <= last; answer++) {
                         if (!spans.holds(trials[i], noise.pairOdds(lead, guess, answer), noise.pairs(),
                                 given[i * ANSWERS + answer])) {
                             return false;

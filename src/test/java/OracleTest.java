@@ -100,7 +100,7 @@ public final class OracleTest {
             case 2: { int v = rarely(any(0, 65537)); due("seed " + v, x.seed(v), y.seed(v)); break; }
             case 3: case 4: due("trial " + of, x.trial(p, kind, a, b, c), y.trial(p, kind, a, b, c)); break;
             case 5: {
-                int answer = r.nextInt(8) == 0 ? any(-1, 9) : any(0, 1);
+                int answer = r.nextInt(8) == 0 ? any(-1, 9) : kind == 0 ? any(0, 2) : any(0, 1);
                 due("tell " + of + answer, x.tell(p, kind, a, b, c, answer), y.tell(p, kind, a, b, c, answer));
                 break;
             }
@@ -237,7 +237,7 @@ public final class OracleTest {
         for (int i = 0; i < 450; i++) {
             int p = any(0, 5), kind = any(0, 1), a = any(1, widest), b = any(1, widest);
             boolean more = y.level(0, kind == 0 ? b : a) > (kind == 0 ? y.level(0, a) : 5);
-            int answer = more ? 1 : 0;
+            int answer = kind == 0 && r.nextInt(8) == 0 ? 2 : more ? 1 : 0;
             due("tell " + p + " " + kind + " " + a + " " + b + " " + answer, x.tell(p, kind, a, b, 0, answer), y.tell(p, kind, a, b, 0, answer));
         }
         for (int p = 0; p < 6; p++) {

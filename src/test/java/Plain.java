@@ -543,7 +543,7 @@ final class Plain {
         for (int[] cell : cells(p, kind)) {
             Map<Integer, Integer> odds = fresh(like, law, kind, cell[2], cell[3]);
             int n = counted(cell, -1);
-            for (int answer = 0; answer <= (kind == 0 ? 2 : 1); answer++) {
+            for (int answer = 0; answer <= (kind == 0 && !like.guess ? 2 : 1); answer++) {
                 int[] span = span(n, odds.getOrDefault(answer, 0), odds.get(-1));
                 if (!in(counted(cell, answer), span[0], span[1])) return false;
             }

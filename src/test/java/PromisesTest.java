@@ -688,6 +688,13 @@ public final class PromisesTest {
         return x;
     }
 
+    /** Of p, who has guess: pair 10, 10 some times 2, which it can't say itself. Sense n is without noise, so it lets no answer be left out. */
+    private static LittleMore toldTwos(int times) {
+        LittleMore x = Texts.roomOf("sense s line 1/1 noise 2 1;sense n line 1/1 noise 1;sayer p of s guess;sayer q of s");
+        for (int i = 0; i < times; i++) x.tell(0, 0, 10, 10, 0, 2);
+        return x;
+    }
+
     private static void overfill(LittleMore x, int p, int kind) {
         for (int i = 0; i < 40; i++) x.tell(p, kind, 7, 8, 0, 1);
         due("a cell of 40 is judged", x.fits(p) >= 0, true);
@@ -735,6 +742,26 @@ public final class PromisesTest {
         due("19: room for another", x.lets(1, 1, 0, 0), 1);
         for (int i = 0; i < 41; i++) x.tell(1, 3, 1, 0, 0, 900);
         due("19: other kinds may have more", x.lets(1, 1, 0, 0), 1);
+        twosOfAGuess();
+    }
+
+    /** Not giving 1 at all has odds of 5 of 16 each time: of three TRIALS still above a fortieth, of four no more. */
+    private static void twosOfAGuess() {
+        LittleMore x = toldTwos(1);
+        due("19: a told 2 isn't asked about", x.lets(0, 0, 0, 0), 1);
+        due("19: second 1", x.lets(0, 0, 0, 1), 1);
+        due("19: second 2", x.lets(0, 0, 0, 2), 0);
+        due("19: second -2", x.lets(0, 0, 0, -2), 1);
+        due("19: second -3", x.lets(0, 0, 0, -3), 0);
+        due("19: without noise there must be a 1", x.lets(0, 1, 0, 0), 0);
+        due("19: or a 0", x.lets(0, 1, 0, -1), 0);
+        due("19: three of them", toldTwos(3).lets(0, 0, 0, 0), 1);
+        due("19: four of them, each a trial", toldTwos(4).lets(0, 0, 0, 0), 0);
+        x.tell(1, 0, 10, 40, 0, 2);
+        due("19: without guess a 2 is asked about", x.lets(1, 0, 0, 0), 0);
+        due("19: and let by a second", x.lets(1, 0, 0, -30), 1);
+        LittleMore full = toldTwos(41);
+        no("19: they fill a cell", full, full.lets(0, 0, 0, 0), -1, 3);
     }
 
     private static void promise20() {
@@ -745,6 +772,8 @@ public final class PromisesTest {
         no("20: no sayer", x, x.fits(2), -1, 1);
         x.tell(0, 1, 400, 0, 0, 0);
         due("20: none", x.fits(0), 0);
+        due("20: a told 2 of a sayer with guess", toldTwos(1).fits(0), 21 * 4);
+        due("20: four of them", toldTwos(4).fits(0), 0);
         overfill(x, 1, 0);
         no("20: no room", x, x.fits(1), -1, 3);
     }
@@ -776,6 +805,11 @@ public final class PromisesTest {
         no("21: no room", x, x.fitAt(0, 0, 0), -1000, 3);
         no("21: no room ahead of i", x, x.fitAt(0, -1, 0), -1000, 3);
         no("21: what ahead of room", x, x.fitAt(0, 0, 3), -1000, 1);
+        LittleMore y = toldTwos(1);
+        due("21: guess, the first", y.fitAt(0, 0, 2), -2);
+        due("21: guess, the fourth", y.fitAt(0, 3, 2), 1);
+        due("21: guess, the fifth", y.fitAt(0, 4, 1), -9);
+        no("21: guess, no more", y, y.fitAt(0, 84, 0), -1000, 1);
     }
 
     private static void promise22() {
@@ -791,6 +825,8 @@ public final class PromisesTest {
         due("22: there are none", x.verdict(0, 0), 0);
         overfill(x, 0, 1);
         no("22: no room", x, x.verdict(0, 0), -1, 3);
+        due("22: guess, in all", toldTwos(1).verdict(0, 0), 2);
+        due("22: guess, in none", toldTwos(1).verdict(0, 1), 0);
     }
 
     private static void promise23() {
@@ -845,6 +881,10 @@ public final class PromisesTest {
         no("24: no sense", x, x.secondOf(0, 2, true), -1000, 1);
         overfill(x, 1, 1);
         no("24: no room", x, x.secondOf(1, 0, true), -1000, 3);
+        LittleMore z = toldTwos(1);
+        due("24: a told 2 of a sayer with guess", z.secondOf(0, 0, false), -2);
+        due("24: a told 2 of a sayer with guess, most", z.secondOf(0, 0, true), 1);
+        no("24: none without noise", z, z.secondOf(0, 1, true), -1000, 6);
     }
 
     private static void promise25() {
