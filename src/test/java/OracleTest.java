@@ -1,8 +1,13 @@
 import java.util.NoSuchElementException;
 import java.util.Random;
 
-/** Runs of calls by chance, the class beside Plain: every answer must be the same, in texts and in all else. */
+/**
+ * Runs of calls by chance, the class beside Plain: every answer must be the same, in texts and in all else.
+ * No object is asked more than the 512 calls that the document promises.
+ */
 public final class OracleTest {
+    private static final int MOST_CALLS = 512;
+    private static final int STEPS_END = 300;
     private static int wrong = 0;
     private static long calls = 0;
 
@@ -12,6 +17,7 @@ public final class OracleTest {
     private final Plain y = new Plain();
     private final StringBuilder told = new StringBuilder();
     private boolean spoilt = false;
+    private int asked = 0;
 
     private OracleTest(long number) {
         this.number = number;
@@ -20,6 +26,7 @@ public final class OracleTest {
 
     private void due(String call, long got, long want) {
         calls++;
+        asked++;
         told.append(call).append(" = ").append(want).append('\n');
         if (got != want && !spoilt) {
             wrong++;
@@ -212,9 +219,9 @@ public final class OracleTest {
         state();
     }
 
-    private void run(int steps) {
+    private void run() {
         text(Texts.chance(r, 600));
-        for (int i = 0; i < steps && !spoilt; i++) {
+        while (asked < STEPS_END && !spoilt) {
             int which = r.nextInt(100);
             if (which < 45) trials();
             else if (which < 55) longTrials();
@@ -227,6 +234,14 @@ public final class OracleTest {
         }
         marks();
         state();
+        checkCalls();
+    }
+
+    private void checkCalls() {
+        if (asked > MOST_CALLS) {
+            wrong++;
+            System.out.println("run " + number + " asked " + asked + " calls of one object");
+        }
     }
 
     /** Many cells of all sayers, most of them small, and what lets them. */
@@ -234,7 +249,7 @@ public final class OracleTest {
         text("sense a line 1/" + any(1, 3) + " noise 2 1;sense b share " + any(5, 40) + " noise 1 1;sayer p of a line 3;sayer q of b guess;"
             + "sayer r of a second 1;sayer s of b line 9;sayer t of a;sayer u of b");
         int widest = any(5, 400);
-        for (int i = 0; i < 450; i++) {
+        for (int i = 0; i < 340; i++) {
             int p = any(0, 5), kind = any(0, 1), a = any(1, widest), b = any(1, widest);
             boolean more = y.level(0, kind == 0 ? b : a) > (kind == 0 ? y.level(0, a) : 5);
             int answer = kind == 0 && r.nextInt(8) == 0 ? 2 : more ? 1 : 0;
@@ -249,24 +264,25 @@ public final class OracleTest {
                 due("secondOf most " + p + " " + sense, x.secondOf(p, sense, true), y.secondOf(p, sense, true));
             }
         }
+        checkCalls();
     }
 
-    private void runTexts(int texts) {
-        for (int i = 0; i < texts && !spoilt; i++) {
-            told.setLength(0);
+    private void runTexts() {
+        for (int i = 0; i < 4 && !spoilt; i++) {
             String text = Texts.chance(r, 350);
             for (int n = r.nextInt(4); n > 0; n--) text = Texts.spoiled(r, text);
             if (text.length() <= 700) text(text);
         }
+        checkCalls();
     }
 
     public static void main(String[] args) {
-        long runs = args.length > 0 ? Long.parseLong(args[0]) : 120;
+        long runs = args.length > 0 ? Long.parseLong(args[0]) : 600;
         long from = args.length > 1 ? Long.parseLong(args[1]) : 1;
         for (long i = from; i < from + runs; i++) {
-            new OracleTest(i).run(350);
-            new OracleTest(-i).runTexts(60);
-            if (i % 5 == 0) new OracleTest(i).crowd();
+            new OracleTest(i).run();
+            for (int texts = 0; texts < 4; texts++) new OracleTest(-4 * i - texts).runTexts();
+            if (i % 25 == 0) new OracleTest(i).crowd();
         }
         System.out.println(calls + " calls by chance, " + wrong + " runs with a wrong answer");
         if (wrong != 0) System.exit(1);

@@ -668,6 +668,7 @@ public final class PromisesTest {
         no("18: x above y", x, x.span(1, 3, 2, true), -1, 2);
         for (int n = 1; n <= 40; n++) {
             for (int y = 1; y <= 10000; y += y < 40 ? 1 : 331) {
+                x = new LittleMore();
                 for (int part = 0; part <= y; part += 1 + y / 7) {
                     due("18: least " + n + " " + part + " " + y, x.span(n, part, y, false), Plain.span(n, part, y)[0]);
                     due("18: most " + n + " " + part + " " + y, x.span(n, part, y, true), Plain.span(n, part, y)[1]);

@@ -26,7 +26,7 @@ public final class WildTest {
             Random r = new Random(run);
             LittleMore x = new LittleMore();
             if (run % 4 != 0) Texts.room(x, Texts.chance(r, 600));
-            for (int i = 0; i < 512; i++) {
+            for (int i = 0; i < 470; i++) {
                 Method m = face[r.nextInt(face.length)];
                 if (m.getName().equals("room") && r.nextInt(4) != 0) continue;
                 Object[] with = Arrays.stream(m.getParameterTypes()).map(type -> wild(r, type)).toArray();
