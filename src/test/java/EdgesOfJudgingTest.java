@@ -510,6 +510,18 @@ public final class EdgesOfJudgingTest {
         x.clear();
         x.run(0, 0);
         Told.due("20 each once THE BOOK was empty", x.lineOf(0, 0, true), 0);
+        besideOneAnother();
+    }
+
+    /** The class finds CELLS by a sum over all that is named: five of another SAYER that have the sum of ALONE 10 push it to that of ALONE 53. */
+    private static void besideOneAnother() {
+        LittleMore x = Texts.roomOf("sense s line 1/1 noise 1;sayer a of s;sayer b of s");
+        for (int i = 0; i < 5; i++) x.tell(1, 0, 2 + 5 * i, 103 + 43 * i, 0, 1);
+        x.tell(0, 1, 10, 0, 0, 0);
+        x.tell(0, 1, 53, 0, 0, 1);
+        Told.due("ALONE 10 said 0, so the least LINE", x.lineOf(0, 0, false), 10);
+        Told.due("ALONE 53 said 1, and the greatest LINE", x.lineOf(0, 0, true), 50);
+        Told.due("how many FITS", x.fits(0), 11);
     }
 
     /** 440 CELLS of both kinds and three SAYERS, far and wide; without NOISE each says what its own sizes bring, so one mixed up with another shows. */

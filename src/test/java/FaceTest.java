@@ -108,10 +108,8 @@ public final class FaceTest {
 
     public static void main(String[] args) throws Exception {
         checkFace();
-        Path here = Path.of(FaceTest.class.getProtectionDomain().getCodeSource().getLocation().toURI());
-        String told = System.getProperty("source", "src/main/java/LittleMore.java");
-        Path source = Path.of(told);
-        check(Files.exists(source), "the source is at " + told + " (run from " + here + ")");
+        Path source = Path.of(System.getProperty("root", "."), "src/main/java/LittleMore.java");
+        check(Files.exists(source), "the source is at " + source);
         if (Files.exists(source)) checkSource(Files.readString(source));
         System.out.println(wrong == 0 ? "the face is as told" : wrong + " are not so");
         if (wrong != 0) System.exit(1);
